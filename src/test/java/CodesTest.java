@@ -132,6 +132,7 @@ public final class CodesTest {
         Check.due("2 the eighth is not gone on with", Check.fed(ESC + "[0;0;0;0;0;0;0;1;4;4m").pen(), 1);
         Check.due("2 9999 at most", Check.fed(ESC + "[?10491049h").isSecond(), false);
         Check.due("2 bytes below 32", cursor(ESC + "[2\n\r\u0007;3H"), "1,2");
+        Check.due("2 31", cursor(ESC + "[2\u001f;3H"), "1,2");
         Check.due("10 no ring there", Check.fed(ESC + "[2\u0007;3H").rings(), 0);
         Check.due("2 127 and beyond", cursor(ESC + "[2\u007f\u00c3\u0080;\u00ff3H"), "1,2");
         Check.due("2 126 ends it", Check.line(Check.fed(ESC + "[2~3H"), 0), "3H..........");
@@ -296,6 +297,7 @@ public final class CodesTest {
         Check.due("25 an empty one", pen("1;31;"), 0);
         Check.due("25 in turn", pen("1;0;4"), 2);
         Check.due("25 none", Check.fed(ESC + "[1;31m" + ESC + "[m").pen(), 0);
+        Check.due("25 unknown ones beside a colour", pen("31;41;28;29;38;48;50;107;9999"), 16 * 2 + 256 * 2);
         Check.due("25 unknown ones", pen("1;2;3;5;6;8;38;48;90;100"), 1);
     }
 
@@ -324,6 +326,10 @@ public final class CodesTest {
         Check.due("11 without the origin", sent(ESC + "[2;4r\n" + ESC + "[6n"), ESC + "[2;1R");
         Check.due("11 others", sent(ESC + "[n" + ESC + "[1n" + ESC + "[7n"), "");
         Check.due("11 the first number alone", sent(ESC + "[5;6n"), ESC + "[0n");
+        Check.due("11 by the origin, above the region", sent(ESC + "[?6h" + ESC + "7" + ESC + "[3;4r" + ESC + "8" + ESC
+                + "[6n"), ESC + "[-1;1R");
+        Check.due("11 by the origin, just above it", sent(ESC + "[?6h" + ESC + "7" + ESC + "[2;4r" + ESC + "8" + ESC
+                + "[6n"), ESC + "[0;1R");
         TerminalWeir t = Check.sized(20, 10, ESC + "[10;20H" + ESC + "[6n");
         Check.due("11 the last place", Check.taken(t), ESC + "[10;20R");
     }

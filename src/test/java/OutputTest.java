@@ -87,6 +87,10 @@ public final class OutputTest {
         Check.due("35 not by the origin", since("", ESC + "[2;3r" + ESC + "[?6hx"), "^[2;1H^[0mx^[2;2H");
         Check.due("36 characters in bytes", since("", "\u00c3\u00a9\u00e2\u0082\u00ac\u00f0"),
                 "^[1;1H^[0m\u00c3\u00a9\u00e2\u0082\u00ac\u00ef\u00bf\u00bd^[1;4H");
+        for (int character : new int[] {126, 128, 2047, 2048, 55296, 65535}) {
+            String bytes = Check.bytesOf(character);
+            Check.due("36 character " + character, since("", bytes), "^[1;1H^[0m" + bytes + "^[1;2H");
+        }
         TerminalWeir t = Check.sized(20, 10, "");
         t.keep();
         Check.code(t, "10;20Hz");

@@ -61,6 +61,7 @@ public final class WritingTest {
         Check.due("16 two, then a letter", told("\u00c3x"), b + "x..........");
         Check.due("16 three, then a letter", told("\u00e2\u0082x"), b + "x..........");
         Check.due("16 begun anew", told("\u00e2\u0082\u00c3\u00a9x"), b + "\u00e9x.........");
+        Check.due("16 then 192", told("\u00e2\u00c0x"), b + b + "x.........");
         Check.due("16 then broken", told("\u00e2\u00f0x"), b + b + "x.........");
         Check.due("16 then a new line", Check.cursor(Check.fed("\u00c3\n")), "1,1");
         Check.due("16 then a code", Check.cursor(Check.fed("\u00c3" + Check.ESC + "[3;3H")), "2,2");
