@@ -512,6 +512,11 @@ public final class TerminalWeir {
             return characterOf(cell(column)) == 32;
         }
 
+        /** Blank without style; a cell that a mark has joined is not, as its mark would be lost with it. */
+        static boolean isPlain(long cell) {
+            return cell == BLANK;
+        }
+
         /** Makes both halves of a wide character blank that stands across the left edge of the column. */
         void part(int column) {
             if (column > 0 && column < cells.length && characterOf(cells[column]) == HALF) {
@@ -589,7 +594,7 @@ public final class TerminalWeir {
 
         boolean isEmpty(int width) {
             for (int i = 0; i < width; i++) {
-                if (!isBlank(i) || styleOf(cell(i)) != 0) {
+                if (!isPlain(cell(i))) {
                     return false;
                 }
             }
@@ -1565,14 +1570,10 @@ public final class TerminalWeir {
 
         int lengthOf(Display display, int first, int last) {
             int length = (last - first + 1) * display.width;
-            while (length > 0 && isPlainBlank(oldCell(display, first, length - 1))) {
+            while (length > 0 && Row.isPlain(oldCell(display, first, length - 1))) {
                 length--;
             }
             return length;
-        }
-
-        static boolean isPlainBlank(long cell) {
-            return Row.characterOf(cell) == 32 && Row.styleOf(cell) == 0;
         }
 
         /** Where in the line the cursor is, or -1 if it is in another one. */

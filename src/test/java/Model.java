@@ -698,7 +698,7 @@ final class Model {
     }
 
     static boolean isNothing(Cell cell) {
-        return cell.sign == 32 && cell.style == 0;
+        return cell.same(new Cell(32, 0));
     }
 
     void flow(int newWidth, int newHeight) {

@@ -160,7 +160,7 @@ public final class ModelTest {
             case 2:
                 return Check.bytesOf(new int[] {0x4e00, 0xac00, 0xff21, 0x1100, 233, 0x20ac, 65533}[random.nextInt(7)]);
             case 3:
-                return Check.bytesOf(768 + random.nextInt(112));
+                return (random.nextInt(2) == 0 ? " " : "") + Check.bytesOf(768 + random.nextInt(112));
             case 4:
                 return "" + (char) (random.nextInt(3) > 0 ? 7 + random.nextInt(7) : random.nextInt(32));
             case 5:

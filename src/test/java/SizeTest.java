@@ -19,6 +19,8 @@ public final class SizeTest {
         higher();
         lower();
         emptyLines();
+        markedBlanks();
+        markedRows();
         backPagesFlow();
         cursorAbove();
         secondScreen();
@@ -166,6 +168,67 @@ public final class SizeTest {
                 ".. 0,0 ab");
         Check.due("16 with the width another", flown("abcd\r\nef", 4, 4, 2, 4), "ab+/cd/ef/.. 2,1");
         Check.due("16 one goes", flown("abcd\r\nef\r\ngh\r\n" + ESC + "[1;1H", 4, 4, 2, 4), "ab+/cd/ef/gh 0,0");
+    }
+
+    /** Where the mark is, by rows, then columns. */
+    private static String marked(String text, int width, int height, int newWidth, int newHeight) {
+        TerminalWeir t = Check.sized(width, height, text);
+        t.size(newWidth, newHeight);
+        StringBuilder places = new StringBuilder();
+        for (int i = 0; i < newHeight; i++) {
+            for (int j = 0; j < newWidth; j++) {
+                places.append(hasMark(t, i, j) ? " " + i + "," + j : "");
+            }
+        }
+        return Check.screen(t) + " " + Check.cursor(t) + " " + t.back() + " at" + places;
+    }
+
+    private static boolean hasMark(TerminalWeir t, int row, int column) {
+        try {
+            return t.mark(row, column) > 0;
+        } catch (java.util.NoSuchElementException none) {
+            return false;
+        }
+    }
+
+    private static void markedBlanks() {
+        String mark = Check.bytesOf(0x301);
+        Check.due("16 a marked blank at the end stays", marked("abcd  " + mark, 6, 3, 4, 3),
+                "abcd+/..../.... 1,1 0 at 1,1");
+        Check.due("16 without the mark it goes", marked("abcd  ", 6, 3, 4, 3), "abcd/..../.... 0,3 0 at");
+        Check.due("16 blanks behind it go", marked("ab " + mark + "   ", 6, 3, 3, 3), "ab./.../... 0,2 0 at 0,2");
+        Check.due("21 the cursor behind it", marked("a " + mark + ESC + "[1;6H", 6, 2, 8, 2),
+                "a......./........ 0,5 0 at 0,1");
+        Check.due("21 at it", marked("ab " + mark + ESC + "[1;3H", 6, 3, 2, 3), "ab+/../.. 1,0 0 at 1,0");
+        Check.due("16 joined, between", marked("abc " + mark + "ef", 4, 3, 8, 3),
+                "abc.ef../......../........ 0,6 0 at 0,3");
+        Check.due("16 erased with its mark it goes", marked("abcd  " + mark + ESC + "[1;5H" + ESC + "[K", 6, 3, 4, 3),
+                "abcd/..../.... 0,3 0 at");
+        Check.due("16 written over it goes", marked("abcd  " + mark + ESC + "[1;6H ", 6, 3, 4, 3),
+                "abcd/..../.... 0,3 0 at");
+        Check.due("16 through the back pages and again", markedAndAgain("abcd " + mark + "\r\nx\r\ny"),
+                "abcd../x...../y..... at 0,4");
+    }
+
+    private static String markedAndAgain(String text) {
+        TerminalWeir t = Check.sized(6, 3, text);
+        t.size(4, 1);
+        t.size(6, 3);
+        return Check.screen(t) + " at" + (hasMark(t, 0, 4) ? " 0,4" : "");
+    }
+
+    private static void markedRows() {
+        String mark = Check.bytesOf(0x301);
+        String home = ESC + "[H";
+        Check.due("30 a marked row is no empty line", marked("\n\n " + mark + home, 4, 4, 4, 2),
+                "..../.... 0,0 1 at 1,0");
+        Check.due("30 without the mark it is", marked("\n\n " + home, 4, 4, 4, 2), "..../.... 0,0 0 at");
+        Check.due("30 marked in its last cell", marked("\n\n    " + mark + home, 4, 4, 4, 2),
+                "..../.... 0,0 1 at 1,3");
+        Check.due("30 with the width another", marked("\n\n " + mark + home, 4, 4, 5, 2),
+                "...../..... 0,0 1 at 1,0");
+        Check.due("30 erased it is again", marked("\n\n " + mark + ESC + "[2K" + home, 4, 4, 4, 2),
+                "..../.... 0,0 0 at");
     }
 
     private static void backPagesFlow() {
