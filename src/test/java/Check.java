@@ -83,6 +83,13 @@ final class Check {
         return terminal;
     }
 
+    /** An object of this size into which the text was written, what is beyond 127 in its bytes. */
+    static TerminalWeir written(int width, int height, String text) {
+        TerminalWeir terminal = sized(width, height, "");
+        write(terminal, text);
+        return terminal;
+    }
+
     /** A row as text: '.' for a blank cell, '<' for an other half. */
     static String line(TerminalWeir terminal, int row) {
         StringBuilder text = new StringBuilder();
@@ -127,6 +134,32 @@ final class Check {
             text.append(i > 0 ? "," : "").append(terminal.style(row, i));
         }
         return text.toString();
+    }
+
+    /** Where marks are and which, by rows, then columns: "0,1:769 2,3:768". */
+    static String marks(TerminalWeir terminal) {
+        StringBuilder text = new StringBuilder();
+        for (int i = 0; i < terminal.height(); i++) {
+            for (int j = 0; j < terminal.width(); j++) {
+                String mark = markOf(terminal, i, j);
+                if (!mark.equals("-")) {
+                    text.append(text.length() > 0 ? " " : "").append(i + "," + j + ":" + mark);
+                }
+            }
+        }
+        return text.toString();
+    }
+
+    static String tabs(TerminalWeir terminal) {
+        StringBuilder text = new StringBuilder();
+        for (int i = 0; i < terminal.width(); i++) {
+            text.append(terminal.hasTab(i) ? 'T' : '-');
+        }
+        return text.toString();
+    }
+
+    static String region(TerminalWeir terminal) {
+        return terminal.region(true) + "-" + terminal.region(false);
     }
 
     static String cursor(TerminalWeir terminal) {
@@ -187,13 +220,11 @@ final class Check {
                 text.append(' ').append(terminal.style(i, j)).append(':').append(markOf(terminal, i, j));
             }
         }
-        for (int i = 0; i < terminal.width(); i++) {
-            text.append(terminal.hasTab(i) ? 'T' : '-');
-        }
-        text.append(' ').append(terminal.isHeld()).append(' ').append(terminal.signals()).append(' ')
-                .append(terminal.rings()).append(' ').append(terminal.sent()).append(' ').append(terminal.isShown())
-                .append(' ').append(terminal.isSecond()).append(' ').append(terminal.pen()).append(' ')
-                .append(terminal.region(true)).append(' ').append(terminal.region(false)).append(' ')
+        text.append(tabs(terminal)).append(' ').append(terminal.isHeld()).append(' ').append(terminal.signals())
+                .append(' ').append(terminal.rings()).append(' ').append(terminal.sent())
+                .append(' ').append(terminal.isShown()).append(' ').append(terminal.isSecond())
+                .append(' ').append(terminal.pen()).append(' ').append(terminal.region(true))
+                .append(' ').append(terminal.region(false)).append(' ')
                 .append(terminal.isSet(4)).append(terminal.isSet(6)).append(terminal.isSet(7)).append(' ')
                 .append(title(terminal)).append(' ').append(chosen(terminal)).append(' ').append(output(terminal))
                 .append(' ').append(terminal.filledBits()).append(' ').append(terminal.meanLength()).append(' ')
