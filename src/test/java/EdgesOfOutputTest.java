@@ -22,6 +22,7 @@ public final class EdgesOfOutputTest {
         tenBehindRows();
         halvesSelected();
         blanksSelected();
+        blanksWithMarks();
         selectedLast();
         sums();
         outputRefused();
@@ -183,6 +184,24 @@ public final class EdgesOfOutputTest {
         Check.due("a blank at the end with a style is left out",
                 pick(t, 'l', 0, 0, 0, 0) + "|" + pick(t, 'b', 0, 0, 0, 3), "a|a");
         Check.due("blanks at the end by 'w' stay", pick(t, 'w', 0, 0, 0, 3), "a   ");
+    }
+
+    /** A mark is no character, so it does not make a cell of the character 32 another one than blank. */
+    private static void blanksWithMarks() {
+        String what = "'a character, 32 if it is blank', with a mark too: ";
+        TerminalWeir t = Check.written(6, 2, "a b" + MARK + " " + MARK);
+        Check.due(what + "the mark is there", Check.marks(t), "0,2:769 0,3:769");
+        Check.due(what + "left out at the end of rows", pick(t, 'l', 0, 0, 0, 0) + "|" + pick(t, 'b', 0, 0, 0, 3),
+                "a b|a b");
+        Check.due(what + "it ends a word", pick(t, 'w', 0, 2, 0, 2) + "|" + pick(t, 'w', 0, 3, 0, 3), "b| ");
+        Check.due(what + "meanLength", t.meanLength(), 1.5);
+        Check.due(what + "filledBits", t.filledBits(), Float.floatToIntBits(2f / 12f));
+        TerminalWeir parts = Check.written(6, 1, "ab" + ESC + "[1;2H " + MARK + "c");
+        Check.due(what + "it parts words", pick(parts, 'w', 0, 0, 0, 0) + "|" + pick(parts, 'w', 0, 2, 0, 2), "a|c");
+        Check.due(what + "within a row it stays", pick(parts, 'l', 0, 0, 0, 0), "a c");
+        TerminalWeir alone = Check.written(2, 1, " " + MARK);
+        Check.due(what + "it alone", alone.filledBits() + " " + alone.meanLength() + pick(alone, 'l', 0, 0, 0, 0),
+                "0 0.0");
     }
 
     private static void selectedLast() {
